@@ -1,0 +1,41 @@
+/** Counts and prints the answers that are not as due; each test ends by {@link #end()}. */
+final class Check {
+    private static final int PRINTED_AT_MOST = 40;
+    private int wrong = 0;
+    private int asked = 0;
+
+    void due(String what, long got, long want) {
+        asked++;
+        if (got != want) {
+            tell(what + " answered " + got + ", due is " + want);
+        }
+    }
+
+    void due(String what, boolean got, boolean want) {
+        asked++;
+        if (got != want) {
+            tell(what + " answered " + got + ", due is " + want);
+        }
+    }
+
+    void due(String what, String got, String want) {
+        asked++;
+        if (!got.equals(want)) {
+            tell(what + " answered " + got + ", due is " + want);
+        }
+    }
+
+    private void tell(String text) {
+        wrong++;
+        if (wrong <= PRINTED_AT_MOST) {
+            System.out.println(text);
+        }
+    }
+
+    void end() {
+        System.out.println(asked + " answers, " + wrong + " not as due");
+        if (wrong != 0 || asked == 0) {
+            System.exit(1);
+        }
+    }
+}
