@@ -7,34 +7,39 @@ final class Check {
     void due(String what, long got, long want) {
         asked++;
         if (got != want) {
-            tell(what + " answered " + got + ", due is " + want);
+            fail(what + " answered " + got + ", due is " + want);
         }
     }
 
     void due(String what, boolean got, boolean want) {
         asked++;
         if (got != want) {
-            tell(what + " answered " + got + ", due is " + want);
+            fail(what + " answered " + got + ", due is " + want);
         }
     }
 
     void due(String what, String got, String want) {
         asked++;
         if (!got.equals(want)) {
-            tell(what + " answered " + got + ", due is " + want);
+            fail(what + " answered " + got + ", due is " + want);
         }
     }
 
-    private void tell(String text) {
+    void fail(String text) {
         wrong++;
         if (wrong <= PRINTED_AT_MOST) {
             System.out.println(text);
         }
     }
 
+    /** A test that asked nothing is no good one. */
+    boolean isGood() {
+        return wrong == 0 && asked > 0;
+    }
+
     void end() {
         System.out.println(asked + " answers, " + wrong + " not as due");
-        if (wrong != 0 || asked == 0) {
+        if (!isGood()) {
             System.exit(1);
         }
     }

@@ -1,27 +1,25 @@
-/** Promises 5 to 9: step, state, holder, events, event. */
+/** Promises 5 to 9: step, state, holder, events, event. A full trace is looked at by EdgesOfStepsTest. */
 final class StepTest {
-    private static final String INDEX = "throws.IndexOutOfBoundsException";
-    private static final String STATE = "throws.IllegalStateException";
-    private static final String INFEASIBLE = "throws.UnsupportedOperationException";
+    private static final String INDEX = Calls.INDEX;
+    private static final String STATE = Calls.STATE;
+    private static final String INFEASIBLE = Calls.INFEASIBLE;
     private static final int MIN = Integer.MIN_VALUE;
     private static final int MAX = Integer.MAX_VALUE;
     private static final Check CHECK = new Check();
 
     /** A step that has to answer this, with all else as it was. */
     private static void dueUnchanged(String what, RaceWatch x, int t, String want) {
-        String was = Calls.look(x);
-        CHECK.due(what, Calls.step(x, t), want);
-        CHECK.due(what + " changes nothing", Calls.look(x), was);
+        Calls.dueUnchanged(CHECK, what, x, t, want);
     }
 
     private static void wrongThreads() {
         RaceWatch x = Calls.added(Calls.row(0, 0, 0));
         dueUnchanged("not started", x, 0, STATE);
         dueUnchanged("not started, no such thread", x, 5, INDEX);
-        x.start(false);
         for (int t : new int[] {-1, 5, MIN, MAX}) {
-            dueUnchanged("thread " + t, x, t, INDEX);
+            dueUnchanged("thread " + t, Calls.started(false, Calls.row(0, 0, 0)), t, INDEX);
         }
+        x.start(false);
         for (int t = 1; t < 5; t++) {
             dueUnchanged("new thread " + t, x, t, STATE);
         }
@@ -176,50 +174,6 @@ final class StepTest {
         dueUnchanged("FORK of a running one", w, 0, INFEASIBLE);
     }
 
-    /** 200 events of thread 0 by a LOOP round nine accesses; the rows are for thread 1. */
-    private static RaceWatch full(int[]... rows) {
-        RaceWatch x = new RaceWatch();
-        x.add(0, 6, 1, 0);
-        x.add(0, 10, 40, 0);
-        for (int n = 0; n < 9; n++) {
-            x.add(0, n % 2, n % 8, 0);
-        }
-        x.add(0, 12, 0, 2);
-        Calls.addTo(x, rows);
-        x.start(false);
-        Calls.go(x, 0, 0);
-        return x;
-    }
-
-    private static void fill(RaceWatch x) {
-        int done = 1;
-        for (int n = 0; n < 300 && done < 200; n++) {
-            done += x.step(0) == 1 ? 1 : 0;
-        }
-    }
-
-    private static void fullTrace() {
-        int[] eventOps = {0, 1, 2, 4, 5, 6, 8, 9};
-        for (int op : eventOps) {
-            RaceWatch x = full(Calls.row(1, op, op == 6 ? 2 : 0));
-            fill(x);
-            CHECK.due("room for 200", x.events(), 200);
-            CHECK.due("the last is there", x.event(199) >= 0, true);
-            CHECK.due("and none behind it", x.event(200), -1);
-            dueUnchanged("full, op " + op, x, 1, "0");
-        }
-        RaceWatch quiet = full(Calls.row(1, 11, 0), Calls.row(1, 10, 2), Calls.row(1, 12, 0, 1), Calls.row(1, 3, 0));
-        fill(quiet);
-        CHECK.due("full, NEXT", Calls.step(quiet, 1), "2");
-        CHECK.due("full, SET", Calls.step(quiet, 1), "2");
-        CHECK.due("full, LOOP", Calls.step(quiet, 1), "2");
-        CHECK.due("full, looped", quiet.state(1), 1 + 4 + 64);
-        CHECK.due("events stay", quiet.events(), 200);
-        RaceWatch infeasible = full(Calls.row(1, 3, 0));
-        fill(infeasible);
-        dueUnchanged("full, an infeasible one", infeasible, 1, INFEASIBLE);
-    }
-
     private static void outOfRangeState() {
         RaceWatch x = Calls.started(false, Calls.row(0, 0, 0));
         for (int t : new int[] {-1, 5, MIN, MAX}) {
@@ -251,7 +205,6 @@ final class StepTest {
         locks();
         endedHolds();
         forkAndJoin();
-        fullTrace();
         outOfRangeState();
         eventWhenCoarse();
         CHECK.end();
