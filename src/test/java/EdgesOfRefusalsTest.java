@@ -129,6 +129,25 @@ final class EdgesOfRefusalsTest extends Calls {
         }
     }
 
+    /** A JOIN that is INFEASIBLE at first can be done later: then it must know no more than without the tries. */
+    private static void stepFeasibleLater(Check check) {
+        String[] looks = new String[2];
+        for (int tried = 0; tried < 2; tried++) {
+            RaceWatch x = started(false, row(0, FORK, 1), row(0, FORK, 2), row(0, WRITE, 0), row(0, WRITE, 0), row(0, WRITE, 0),
+                    row(1, JOIN, 3), row(1, WRITE, 0), row(2, WRITE, 1), row(2, FORK, 3), row(2, WRITE, 1), row(3, READ, 2));
+            go(x, 0, 0);
+            for (int t : new int[] {0, 2, 0, 0, 2}) {
+                if (tried == 1) {
+                    check.due("JOIN of a new one", step(x, 1), INFEASIBLE);
+                }
+                go(x, t);
+            }
+            go(x, 2, 3, 1, 1);
+            looks[tried] = lookAtAll(x);
+        }
+        check.due("the tries taught nothing", looks[1], looks[0]);
+    }
+
     private static void stepThatWaits(Check check) {
         String[] looks = new String[2];
         for (int tried = 0; tried < 2; tried++) {
@@ -193,6 +212,7 @@ final class EdgesOfRefusalsTest extends Calls {
         s.holds(sentence + "step of no thread", EdgesOfRefusalsTest::stepOfNoThread);
         s.holds(sentence + "step of a thread that is not running", EdgesOfRefusalsTest::stepNotRunning);
         s.holds(sentence + "step of an INFEASIBLE instruction", EdgesOfRefusalsTest::stepInfeasible);
+        s.holds(sentence + "step of a JOIN that is INFEASIBLE at first", EdgesOfRefusalsTest::stepFeasibleLater);
         s.holds(sentence + "a step that waits", EdgesOfRefusalsTest::stepThatWaits);
         s.holds(sentence + "calls that ask for what is not there", EdgesOfRefusalsTest::askingOutOfBounds);
         s.holds(sentence + "before, of what is not there", EdgesOfRefusalsTest::askingBefore);
